@@ -434,14 +434,14 @@ public final class NoticeDesk {
         if (!isChain(chain) || !isDay(day)) {
             return NO_SUCH;
         }
-        return dayOrNone(passage.go(chains[chain], day, ALL_STAGES, false));
+        return dayOrNone(passage.go(chains[chain], day, ALL_STAGES));
     }
 
     public int stage(int chain, int day, int k, int what) {
         if (!isChain(chain) || !isDay(day) || !isStage(chain, k) || what < 0 || what > 1) {
             return NO_SUCH;
         }
-        passage.go(chains[chain], day, k, false);
+        passage.go(chains[chain], day, k);
         return dayOrNone(what == 0 ? passage.sentDay() : passage.servedDay());
     }
 
@@ -450,12 +450,12 @@ public final class NoticeDesk {
             return NO_SUCH;
         }
         if (k == NONE) {
-            return dayOrNone(passage.go(chains[chain], begun, ALL_STAGES, true));
+            return dayOrNone(passage.goQuickly(chains[chain], begun, ALL_STAGES));
         }
         if (!isStage(chain, k)) {
             return NO_SUCH;
         }
-        passage.go(chains[chain], begun, k, true);
+        passage.goQuickly(chains[chain], begun, k);
         return passage.wayGone();
     }
 
@@ -465,8 +465,8 @@ public final class NoticeDesk {
         }
         int found = 0;
         for (int day = first; day <= last; day++) {
-            int mine = lateness(passage.go(chains[one], day, ALL_STAGES, false));
-            int theirs = lateness(passage.go(chains[other], day, ALL_STAGES, false));
+            int mine = lateness(passage.go(chains[one], day, ALL_STAGES));
+            int theirs = lateness(passage.go(chains[other], day, ALL_STAGES));
             if (Integer.compare(mine, theirs) == what - 1) {
                 found++;
             }
@@ -486,7 +486,7 @@ public final class NoticeDesk {
         int end = BELOW;
         for (int leap = 1 << 11; leap > 0; leap /= 2) {
             int next = found + leap;
-            int reached = isDay(next) ? passage.go(chains[chain], next, ALL_STAGES, false) : ABOVE;
+            int reached = isDay(next) ? passage.go(chains[chain], next, ALL_STAGES) : ABOVE;
             if (reached <= day) {
                 found = next;
                 end = reached;
@@ -507,12 +507,12 @@ public final class NoticeDesk {
         if (!isChain(chain) || !isDay(begun) || !isLand(land) || !isHoliday(land, day)) {
             return HIDDEN;
         }
-        return lateness(passage.go(chains[chain], begun, ALL_STAGES, false)) - endWithout(chain, begun, land, day);
+        return lateness(passage.go(chains[chain], begun, ALL_STAGES)) - endWithout(chain, begun, land, day);
     }
 
     private int endWithout(int chain, int begun, int land, int day) {
         lands[land].pretendWorkday(day);
-        int end = lateness(passage.go(chains[chain], begun, ALL_STAGES, false));
+        int end = lateness(passage.go(chains[chain], begun, ALL_STAGES));
         lands[land].pretendWorkday(NONE);
         return end;
     }
@@ -521,7 +521,7 @@ public final class NoticeDesk {
         if (!isChain(chain) || !isDay(begun) || what < 0 || what > 2) {
             return NO_SUCH;
         }
-        int end = passage.go(chains[chain], begun, ALL_STAGES, false);
+        int end = passage.go(chains[chain], begun, ALL_STAGES);
         if (!isDay(end)) {
             return NO_SUCH;
         }
@@ -1696,6 +1696,7 @@ public final class NoticeDesk {
         private final Way[] ways;
         private final Trip trip;
         private int sentDay;
+        private int sentMoment;
         private int servedDay;
         private int wayGone;
 
@@ -1706,25 +1707,44 @@ public final class NoticeDesk {
         }
 
         /** Goes through the stages up to this one: the day on which it is served, BELOW or ABOVE. */
-        int go(Chain chain, int begun, int lastStage, boolean quickly) {
-            trip.forgetDays();
-            trip.seeDay(begun);
-            servedDay = begun;
+        int go(Chain chain, int begun, int lastStage) {
+            begin(begun);
             for (int i = 0; i <= lastStage && i < chain.size; i++) {
-                sentDay = dayToSend(chain, i, servedDay);
-                int moment = HOURS * sentDay + chain.hourOf[i];
-                if (!isDay(sentDay)) {
-                    wayGone = NONE;
-                    servedDay = sentDay;
-                } else if (quickly) {
-                    goByFastest(chain.fromOf[i], chain.toOf[i], moment);
-                } else {
-                    wayGone = chain.wayOf[i];
-                    Way way = ways[wayGone];
-                    servedDay = trip.go(way, chain.fromOf[i], chain.toOf[i], moment, way.size);
+                if (setOff(chain, i)) {
+                    Way way = ways[chain.wayOf[i]];
+                    servedDay = trip.go(way, chain.fromOf[i], chain.toOf[i], sentMoment, way.size);
                 }
             }
             return servedDay;
+        }
+
+        /** Likewise, each stage by the way that is served first. */
+        int goQuickly(Chain chain, int begun, int lastStage) {
+            begin(begun);
+            for (int i = 0; i <= lastStage && i < chain.size; i++) {
+                if (setOff(chain, i)) {
+                    goByFastest(chain.fromOf[i], chain.toOf[i], sentMoment);
+                }
+            }
+            return servedDay;
+        }
+
+        private void begin(int day) {
+            trip.forgetDays();
+            trip.seeDay(day);
+            servedDay = day;
+        }
+
+        /** When the stage's notice is sent; false if it is NEVER. */
+        private boolean setOff(Chain chain, int stage) {
+            wayGone = NONE;
+            sentDay = dayToSend(chain, stage, servedDay);
+            sentMoment = HOURS * sentDay + chain.hourOf[stage];
+            if (isDay(sentDay)) {
+                return true;
+            }
+            servedDay = sentDay;
+            return false;
         }
 
         /** What is NEVER stays so. */
