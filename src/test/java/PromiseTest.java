@@ -136,6 +136,10 @@ public final class PromiseTest {
             "first 6 from", 12, "first 6", 7, "first from 3", 6, "from 3", 0, "here", 0);
         faults(x, 0, "kept", NONE, "kept;kept", 5, "moved;kept", 6, "kept;moved", 5, "moved;moved", 6, "kept 3", 5,
             "keptmoved", 0);
+        for (String word : new String[] {"zone", "zone -", "rest", "open", "open 9", "on", "first", "first 3",
+            "first 3 from", "once"}) {
+            faults(x, 0, word, word.length(), word + ";kept", word.length(), word + " kept", word.length() + 1);
+        }
         String twelve = "on 1;once 2;first 3 from 4;on 1;once 2;first 3 from 4;on 1;once 2;first 3 from 4;"
             + "on 1;once 2;first 3 from 4";
         faults(x, 0, twelve, NONE, twelve + ";zone 3;kept;rest 1;open 2 3", NONE);
@@ -172,6 +176,11 @@ public final class PromiseTest {
             "by 0 from 0 to 1 wait 3 days at 24", 32, "by 0 from 0 to 1 wait 3 days 9", 29,
             "by 0 from 0 to 1 wait 3 days at", 31, "by0from0to1wait3work at9", NONE, "by0from0to1wait3workat9", 16,
             "from 0", 0, stage + ";", 34, stage + " by", 34, stage + "; " + stage, NONE, ";" + stage, 0);
+        String begun = "";
+        for (String part : stage.split(" ")) {
+            faults(x, 2, begun, begun.length(), begun + ";" + stage, begun.length(), begun + " ?", begun.length() + 1);
+            begun = begun.isEmpty() ? part : begun + " " + part;
+        }
         String six = stage + ";" + stage + ";" + stage + ";" + stage + ";" + stage + ";" + stage;
         faults(x, 2, six, NONE, six + ";" + stage, 204, six + ";", 204, six + " by", 204);
     }
@@ -559,6 +568,8 @@ public final class PromiseTest {
         Check.way(x, 0, "days 3");
         withinDay(x, 0, 0, 2, 0, NONE, NONE);
         withinDay(x, 0, 0, 3999, 24, at(3996, 0), at(3996, 23));
+        Check.way(x, 0, "hours 23");
+        withinDay(x, 0, 0, 0, 1, 0, 0);
         due("what 3", x.within(0, 0, 0, 3, 3), -2);
         due("what -1", x.within(0, 0, 0, 3, -1), -2);
         due("DAY 4000", x.within(0, 0, 0, 4000, 0), -2);
@@ -636,12 +647,16 @@ public final class PromiseTest {
         due("a late hour", x.neverLater(3, 2, 0, 0, 0, 0), 0);
         due("a working day less: always", x.neverLater(3, 0, 0, 0, 0, 3), 1);
         due("the last hours of the last day", x.neverLater(3, 0, 0, 0, 0, 4), 0);
+        Check.way(x, 4, "roll");
+        due("workdays alone", x.neverLater(4, 2, 0, 0, 0, 4), 1);
+        due("a day of rest too", x.neverLater(4, 2, 0, 0, 0, 5), 0);
+        due("from a day of rest on", x.neverLater(4, 2, 0, 0, 6, 6), 0);
         due("41 DAYS", x.neverLater(0, 1, 0, 0, 0, 40), NONE);
         due("last ahead of first", x.neverLater(0, 1, 0, 0, 1, 0), NONE);
         due("DAY 4000", x.neverLater(0, 1, 0, 0, 3999, 4000), NONE);
         due("DAY -1", x.neverLater(0, 1, 0, 0, -1, 4), NONE);
-        due("no such way", x.neverLater(4, 0, 0, 0, 0, 1), NONE);
-        due("no such other one", x.neverLater(0, 4, 0, 0, 0, 1), NONE);
+        due("no such way", x.neverLater(5, 0, 0, 0, 0, 1), NONE);
+        due("no such other one", x.neverLater(0, 5, 0, 0, 0, 1), NONE);
         due("LAND 2", x.neverLater(0, 1, 2, 0, 0, 1), NONE);
         due("LAND -1", x.neverLater(0, 1, 0, -1, 0, 1), NONE);
     }
@@ -805,6 +820,8 @@ public final class PromiseTest {
         Check.way(x, 1, "back");
         Check.chain(x, 1, "by 1 from 0 to 0 wait 0 days at 9");
         due("a holiday that makes it earlier", x.cost(1, 5, 0, 4), -1);
+        Check.land(x, 0, "once 0");
+        due("NEVER below DAY 0 counts as 4000, too", x.cost(1, 0, 0, 0), 4000);
         Check.land(x, 0, "once 3999");
         Check.way(x, 1, "begin");
         Check.chain(x, 1, "by 1 from 0 to 0 wait 1 work at 9");
@@ -943,6 +960,15 @@ public final class PromiseTest {
         due("its term is over", x.notice(2, 6), 3);
         due("it is on its way", x.withdraw(2), 2);
         due("and another one", x.withdraw(1), 1);
+        for (int i = 1; i < 12; i++) {
+            x.send(i % 4, 1, 0, i);
+        }
+        due("the second of twelve", x.withdraw(1), 11);
+        for (int i = 1; i < 11; i++) {
+            due("TERM " + i, x.notice(i, 5), i + 1);
+            due("WAY " + i, x.notice(i, 0), (i + 1) % 4);
+        }
+        due("the last of all", x.withdraw(10), 10);
     }
 
     private static void pass() {
@@ -1064,6 +1090,7 @@ public final class PromiseTest {
         x.send(1, 0, 0, NONE);
         x.send(1, 0, 0, 0);
         x.send(1, 0, 0, 9);
+        due("the first one's way", x.notice(0, 0), 6);
         nowIs(x, 0, 5, 5, 0, 0, 0, 2, 66, 8);
         x.pass(25);
         nowIs(x, 25, 5, 1, 2, 1, 1, 0, 66, 8);
