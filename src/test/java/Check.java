@@ -34,11 +34,44 @@ final class Check {
         }
     }
 
+    /** Of each text, as a LAND (0), a WAY (1), a CHAIN (2), the FAULT that stands behind it. */
+    void faults(NoticeDesk desk, int what, Object... textsAndFaults) {
+        for (int i = 0; i < textsAndFaults.length; i += 2) {
+            String text = (String) textsAndFaults[i];
+            due("fault " + what + " of '" + text + "'", fault(desk, what, text), (Integer) textsAndFaults[i + 1]);
+        }
+    }
+
     /** Ends the test's process with 1 if an answer was wrong. */
     void close() {
         System.out.println(asked + " answers, " + wrong + " wrong");
         if (wrong > 0) {
             System.exit(1);
+        }
+    }
+
+    /** A new desk with these lands, and with these ways from WAY 0 on. */
+    static NoticeDesk desk(String land0, String land1, String... ways) {
+        NoticeDesk desk = new NoticeDesk();
+        mustBeTold(land(desk, 0, land0), land0);
+        mustBeTold(land(desk, 1, land1), land1);
+        for (int i = 0; i < ways.length; i++) {
+            mustBeTold(way(desk, i, ways[i]), ways[i]);
+        }
+        return desk;
+    }
+
+    /** Tells these chains, from CHAIN 0 on. */
+    static NoticeDesk chains(NoticeDesk desk, String... chains) {
+        for (int i = 0; i < chains.length; i++) {
+            mustBeTold(chain(desk, i, chains[i]), chains[i]);
+        }
+        return desk;
+    }
+
+    private static void mustBeTold(int answer, String text) {
+        if (answer == NoticeDesk.NONE) {
+            throw new IllegalStateException("a test's own text was refused: " + text);
         }
     }
 

@@ -14,6 +14,10 @@ public final class CompareTest {
     private static final int RUNS = 260;
     private static final int CALLS = 400;
     private static final int MOST_PRINTED = 20;
+    // Numbers at and beyond every edge, put in the place of an argument now and then.
+    private static final int[] FAR = {Integer.MIN_VALUE, Integer.MIN_VALUE + 1, -96001, -96000, -4001, -4000, -25, -2, -1, 0, 1,
+        2, 5, 6, 7, 8, 11, 12, 23, 24, 300, 3998, 3999, 4000, 4001, 9999, 10000, 95998, 95999, 96000, 96001,
+        Integer.MAX_VALUE - 1, Integer.MAX_VALUE};
 
     private final Random random;
     private final NoticeDesk desk = new NoticeDesk();
@@ -22,6 +26,7 @@ public final class CompareTest {
     private final int run;
     private int slowCallsLeft = 12;
     private int day = 0;
+    private boolean daring;
     private static int wrong;
     private static int asked;
     private static final Map<String, Integer> TOLD = new HashMap<>();
@@ -54,8 +59,11 @@ public final class CompareTest {
         return methods;
     }
 
+    /** Without arguments the runs that .ci/run makes; with two, those from the first number to below the second. */
     public static void main(String[] args) throws Exception {
-        for (int run = 0; run < RUNS && wrong < MOST_PRINTED; run++) {
+        int first = args.length == 2 ? Integer.parseInt(args[0]) : 0;
+        int stop = args.length == 2 ? Integer.parseInt(args[1]) : RUNS;
+        for (int run = first; run < stop && wrong < MOST_PRINTED; run++) {
             new CompareTest(run).go();
         }
         System.out.println(asked + " answers compared, " + wrong + " unlike; answers that tell something: " + TOLD);
@@ -72,7 +80,9 @@ public final class CompareTest {
             if (i < 12 || chance(12)) {
                 tell();
             } else {
+                daring = chance(8);
                 callAny();
+                daring = false;
             }
         }
     }
@@ -92,6 +102,9 @@ public final class CompareTest {
     }
 
     private Object call(String name, Integer... args) throws Exception {
+        if (daring && args.length > 0) {
+            args[random.nextInt(args.length)] = FAR[random.nextInt(FAR.length)];
+        }
         Object got = null;
         Object want = null;
         for (Method m : FACE) {

@@ -113,10 +113,7 @@ public final class PromiseTest {
     }
 
     private static void faults(NoticeDesk x, int what, Object... textsAndFaults) {
-        for (int i = 0; i < textsAndFaults.length; i += 2) {
-            String text = (String) textsAndFaults[i];
-            due("fault " + what + " of '" + text + "'", Check.fault(x, what, text), (Integer) textsAndFaults[i + 1]);
-        }
+        CHECK.faults(x, what, textsAndFaults);
     }
 
     private static void landFaults() {
