@@ -1309,11 +1309,14 @@ public final class NoticeDesk {
             if (index < 0) {
                 return BELOW;
             }
-            int place = pretended >= 0 && pretended < DAYS ? before[pretended] : DAYS;
-            if (index == place) {
-                return pretended;
+            long inRow = index;
+            if (pretended >= 0 && pretended < DAYS) {
+                int place = before[pretended];
+                if (index == place) {
+                    return pretended;
+                }
+                inRow = index > place ? index - 1 : index;
             }
-            long inRow = index > place ? index - 1 : index;
             return inRow < workdayCount ? workdays[(int) inRow] : ABOVE;
         }
 
